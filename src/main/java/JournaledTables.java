@@ -622,13 +622,9 @@ public final class JournaledTables {
         }
 
         private boolean keepImages(int blocks) {
-            int image = FIRST_IMAGE;
             for (int b = 0; b < HOME_BLOCKS; b++) {
-                if (contains(blocks, b)) {
-                    if (!disk.copyBlock(image, b)) {
-                        return false;
-                    }
-                    image++;
+                if (contains(blocks, b) && !disk.copyBlock(imageOf(blocks, b), b)) {
+                    return false;
                 }
             }
             return true;
@@ -660,13 +656,9 @@ public final class JournaledTables {
         }
 
         private boolean restoreBlocks(int blocks) {
-            int image = FIRST_IMAGE;
             for (int b = 0; b < HOME_BLOCKS; b++) {
-                if (contains(blocks, b)) {
-                    if (!disk.copyBlock(b, image)) {
-                        return false;
-                    }
-                    image++;
+                if (contains(blocks, b) && !disk.copyBlock(b, imageOf(blocks, b))) {
+                    return false;
                 }
             }
             return true;
@@ -699,6 +691,11 @@ public final class JournaledTables {
                 }
             }
             return check;
+        }
+
+        /** Images stand in the order of their blocks: those of the lower ones go before. */
+        private static int imageOf(int blocks, int b) {
+            return FIRST_IMAGE + Integer.bitCount(blocks & (1 << b) - 1);
         }
 
         private static boolean contains(int blocks, int b) {

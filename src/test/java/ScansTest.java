@@ -197,6 +197,11 @@ public final class ScansTest {
         due.is("col", x.col(0, 0), 0);
         due.is("next", x.next(0), false);
         x.createTable(3);
+        due.is("a third table", x.createTable(2), 2);
+        Due.put(x, 2, 8, 8);
+        Due.put(x, 2, 9, 9);
+        due.is("the page is another table's now: col", x.col(0, 0), 0);
+        due.is("the page is another table's now: next", x.next(0), false);
         Due.put(x, 0, 4, 4, 4);
         isVoid("by a drop, a new table in place of the old", x);
     }
