@@ -2,12 +2,18 @@
 final class Due {
     private int asked = 0;
     private int wrong = 0;
+    private String sentence = "";
+
+    /** The sentence of the document that asks for the answers from here on. */
+    void sentence(String words) {
+        sentence = "\"" + words + "\" ";
+    }
 
     void is(String call, long got, long want) {
         asked++;
         if (got != want) {
             wrong++;
-            System.out.println(call + " answered " + got + ", due is " + want);
+            System.out.println(sentence + call + " answered " + got + ", due is " + want);
         }
     }
 
@@ -54,6 +60,26 @@ final class Due {
         x.begin();
         for (int width : widths) {
             x.createTable(width);
+        }
+        return x;
+    }
+
+    static int rowsWithRoom(int width) {
+        return 15 * (13 / width);
+    }
+
+    /**
+     * A store with a transaction open and a table 0 that takes every page: its keys are 0, 1, ..,
+     * and word i of a row is its key and 1000 i.
+     */
+    static JournaledTables full(int width) {
+        JournaledTables x = open(width);
+        int[] row = new int[width];
+        for (int key = 0; key < rowsWithRoom(width); key++) {
+            for (int i = 0; i < width; i++) {
+                row[i] = key + 1000 * i;
+            }
+            put(x, 0, row);
         }
         return x;
     }

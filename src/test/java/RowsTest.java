@@ -5,7 +5,6 @@ public final class RowsTest {
     public static void main(String[] args) {
         stageSets();
         insertTakesTheFirstWords();
-        insertFillsSlotsOfEachWidth();
         insertIntoTheFirstPageWithRoom();
         insertFollowsTheChain();
         insertRefuses();
@@ -48,30 +47,6 @@ public final class RowsTest {
         due.is("insert", Due.put(x, 0, 1, 2, 3, 4, 5, 6), 0);
         x.commit();
         due.block("page", x, 1, 1, 0, 1, 1, 2, 3);
-    }
-
-    private static void insertFillsSlotsOfEachWidth() {
-        int[] slots = {6, 4, 3, 2, 2};
-        for (int width = 2; width <= 6; width++) {
-            JournaledTables x = Due.open(width);
-            int n = slots[width - 2];
-            int[] page = new int[16];
-            page[0] = 1;
-            page[1] = 2;
-            page[2] = (1 << n) - 1;
-            for (int s = 0; s <= n; s++) {
-                due.is("insert", Due.put(x, 0, 50 - s, 1, 2, 3, 4, 5), 0);
-                for (int i = 0; s < n && i < width; i++) {
-                    page[3 + s * width + i] = i == 0 ? 50 - s : i;
-                }
-            }
-            x.commit();
-            due.block("a full page of width " + width, x, 1, page);
-            due.is("the row behind it has a page of its own", x.peek(2, 0), 1);
-            due.is("in slot 0", x.peek(2, 2), 1);
-            due.is("its key", x.peek(2, 3), 50 - n);
-            due.is("no page behind it", x.peek(2, 1), 0);
-        }
     }
 
     private static void insertIntoTheFirstPageWithRoom() {
