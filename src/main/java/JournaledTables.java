@@ -708,7 +708,7 @@ public final class JournaledTables {
      * makes it void, the rows in memory are still those that matched when it was opened.
      */
     private static final class Scan {
-        private static final long BELOW_ALL_KEYS = Integer.MIN_VALUE - 1L;
+        private static final long BELOW_ALL_KEYS = -(1L << 31) - 1;
 
         private boolean open = false;
         private boolean isVoid = false;
